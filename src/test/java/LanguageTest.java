@@ -4,14 +4,17 @@ import java.lang.reflect.Method;
 import java.lang.reflect.Modifier;
 import java.nio.file.Files;
 import java.nio.file.Path;
+import java.util.ArrayList;
 import java.util.List;
 import java.util.Set;
 import java.util.TreeSet;
+import java.util.regex.Matcher;
 import java.util.regex.Pattern;
 
 /** The face of the class, and those rules of ../shared/LANGUAGE.md that a look at the text can keep. */
 public final class LanguageTest {
     private static final String SOURCE = "src/main/java/JointLoans.java";
+    private static final String DOCUMENT = "../shared/DOC.md";
 
     private static final Set<String> FACE = Set.of("int join()", "int leave(int)", "int lend(int,int,int)",
         "int absent(int)", "int week()", "int payBack(int,int)", "int help(int,int)", "int cycle()",
@@ -72,6 +75,29 @@ public final class LanguageTest {
         }
     }
 
+    /** Rule 11: at most some twelve classes, twenty fields of an object, and seven parameters. */
+    private static void sizes() {
+        List<Class<?>> classes = new ArrayList<>(List.of(JointLoans.class.getDeclaredClasses()));
+        classes.add(JointLoans.class);
+        if (classes.size() > 12) {
+            complain("there are " + classes.size() + " classes");
+        }
+        for (Class<?> each : classes) {
+            int fields = 0;
+            for (Field field : each.getDeclaredFields()) {
+                fields += Modifier.isStatic(field.getModifiers()) ? 0 : 1;
+            }
+            if (fields > 20) {
+                complain(each + " has " + fields + " fields");
+            }
+            for (Method method : each.getDeclaredMethods()) {
+                if (method.getParameterCount() > 7) {
+                    complain(told(method) + " takes too much");
+                }
+            }
+        }
+    }
+
     private static void fields() {
         for (Field field : JointLoans.class.getDeclaredFields()) {
             int m = field.getModifiers();
@@ -91,6 +117,52 @@ public final class LanguageTest {
         }
         if (!Modifier.isFinal(JointLoans.class.getModifiers())) {
             complain("the class is not final");
+        }
+    }
+
+    /** The lines between "```java" and "```", each without its ";". */
+    private static List<String> faceOf(String document) {
+        int begin = document.indexOf("```java");
+        int end = begin < 0 ? -1 : document.indexOf("```", begin + 3);
+        if (end < 0) {
+            complain(DOCUMENT + " has no face");
+            return List.of();
+        }
+        List<String> face = new ArrayList<>();
+        for (String line : document.substring(begin + "```java".length(), end).strip().split("\\R")) {
+            face.add(line.strip().replaceAll(";$", ""));
+        }
+        return face;
+    }
+
+    /** Each line of the face stands in the text as in the document, also its throws clause, and in the same order. */
+    private static void faceAsInTheDocument(String document, String source) {
+        String text = source.replaceAll("\\s+", " ");
+        int place = 0;
+        for (String line : faceOf(document)) {
+            String ending = line.endsWith(")") || line.contains(") throws ") ? " {" : "";
+            int found = text.indexOf(line + ending, place);
+            if (found < 0) {
+                complain("the face does not say, where it is due: " + line);
+            } else {
+                place = found + line.length();
+            }
+        }
+    }
+
+    /** What the interface says ahead of its calls stands ahead of the first of them. */
+    private static void linesAheadOfCalls(String document, String source) {
+        String text = source.replaceAll("\\s+", " ");
+        Matcher said = Pattern.compile("Ahead of the calls `(\\w+)`.* the interface says: (---- .*)\\.").matcher(document);
+        int found = 0;
+        while (said.find()) {
+            found++;
+            if (!text.matches(".*// " + Pattern.quote(said.group(2)) + " public \\w+ " + said.group(1) + "\\(.*")) {
+                complain("ahead of " + said.group(1) + " there is no " + said.group(2));
+            }
+        }
+        if (found != 5) {
+            complain(DOCUMENT + " has " + found + " lines ahead of calls");
         }
     }
 
@@ -120,6 +192,11 @@ public final class LanguageTest {
     public static void main(String[] args) throws Exception {
         methods();
         fields();
+        sizes();
+        String document = Files.readString(Path.of(DOCUMENT));
+        String source = Files.readString(Path.of(SOURCE));
+        faceAsInTheDocument(document, source);
+        linesAheadOfCalls(document, source);
         text(Files.readAllLines(Path.of(SOURCE)));
         System.out.println(wrong == 0 ? "all is as due" : wrong + " faults");
         if (wrong != 0) {
